@@ -102,24 +102,32 @@ public final class AlikeStates {
     }
 
     public int attacks(int s, int t) {
-        return areStates(s, t) ? settledGame().countAttacks(s, t) : 0;
+        if (!areStates(s, t)) {
+            return 0;
+        }
+        likeness.settle();
+        return game.countAttacks(s, t);
     }
 
     public int play(int s, int t) {
-        return areStates(s, t) ? settledGame().playThrough(s, t) : 0;
+        return playedAttacks(s, t);
     }
 
     public int attack(int s, int t, int i) {
-        return isInPlay(s, t, i) ? game.attackAt(i) : NONE;
+        return i >= 0 && i < playedAttacks(s, t) ? game.attackAt(i) : NONE;
     }
 
     public int answer(int s, int t, int i) {
-        return isInPlay(s, t, i) ? game.answerAt(i) : NONE;
+        return i >= 0 && i < playedAttacks(s, t) ? game.answerAt(i) : NONE;
     }
 
-    /** Plays on s and t, so that the game holds attack i afterwards if there is one. */
-    private boolean isInPlay(int s, int t, int i) {
-        return i >= 0 && areStates(s, t) && i < settledGame().playThrough(s, t);
+    /** How many attacks the play on s and t has; the game holds them and their answers afterwards. */
+    private int playedAttacks(int s, int t) {
+        if (!areStates(s, t)) {
+            return 0;
+        }
+        likeness.settle();
+        return game.playThrough(s, t);
     }
 
     private void forgetAnswers() {
@@ -135,12 +143,6 @@ public final class AlikeStates {
     private Cover settledCover() {
         cover.settle();
         return cover;
-    }
-
-    /** The game reads the likeness of states, which must therefore be settled before it is used. */
-    private Game settledGame() {
-        likeness.settle();
-        return game;
     }
 
     private static boolean isState(int s) {
@@ -339,7 +341,7 @@ public final class AlikeStates {
             return s;
         }
 
-        /** The states that are alike to s for so many rounds, which are fewer than some breach. */
+        /** The states that are alike to s for a number of rounds, of which there are lastRound at most. */
         int alikeFor(int rounds, int s) {
             return rows[rounds * STATES + s];
         }
@@ -471,7 +473,10 @@ public final class AlikeStates {
         }
     }
 
-    /** The attacks on two states, and the play on them: kept until the next play. */
+    /**
+     * The attacks on two states, and the play on them, which is kept until the next play. Its callers
+     * have settled the likeness of states, which it reads.
+     */
     private static final class Game {
         private final Net net;
         private final Likeness likeness;
@@ -507,7 +512,7 @@ public final class AlikeStates {
         }
 
         private boolean isAttack(int attacker, int other, int label, int u, int rounds) {
-            return net.holds(attacker, label, u)
+            return hasBit(net.targetsOf(attacker, label), u)
                     && (likeness.alikeFor(rounds, u) & net.targetsOf(other, label)) == 0;
         }
 
@@ -523,21 +528,31 @@ public final class AlikeStates {
             return length;
         }
 
-        /** Makes the next attack if there is one, and says whether it was answered. */
+        /** Makes the next attack if there is one, and says whether it was made and answered. */
         private boolean attackOnce() {
             int rounds = likeness.breachOf(sides[0], sides[1]) - 1;
             if (rounds < 0) {
                 return false;
             }
+            int side = 0;
             int step = firstOf(sides[0], sides[1], rounds);
-            if (step != NONE) {
-                return makeAttack(0, step);
+            if (step == NONE) {
+                side = 1;
+                step = firstOf(sides[1], sides[0], rounds);
             }
-            step = firstOf(sides[1], sides[0], rounds);
-            return step != NONE && makeAttack(1, step);
+            if (step == NONE) {
+                return false;
+            }
+            int reply = bestAnswer(sides[1 - side], step);
+            made[length] = side * SIDE_WEIGHT + step;
+            answered[length] = reply;
+            length++;
+            sides[side] = step % LABEL_WEIGHT;
+            sides[1 - side] = reply;
+            return reply != NONE;
         }
 
-        /** The first attack of one of the two states, without the weight of its side, or NONE. */
+        /** The first attack of one of the two states, written without its side; NONE if it has none. */
         private int firstOf(int attacker, int other, int rounds) {
             for (int label = 0; label < LABELS; label++) {
                 for (int u = 0; u < STATES; u++) {
@@ -549,29 +564,17 @@ public final class AlikeStates {
             return NONE;
         }
 
-        private boolean makeAttack(int side, int step) {
-            int state = step % LABEL_WEIGHT;
-            int reply = bestAnswer(sides[1 - side], step / LABEL_WEIGHT, state);
-            made[length] = side * SIDE_WEIGHT + step;
-            answered[length] = reply;
-            length++;
-            if (reply == NONE) {
-                return false;
-            }
-            sides[side] = state;
-            sides[1 - side] = reply;
-            return true;
-        }
-
         /** An attack leaves only states that differ, so that each of the answers has a breach. */
-        private int bestAnswer(int other, int label, int attacked) {
+        private int bestAnswer(int other, int step) {
+            int answers = net.targetsOf(other, step / LABEL_WEIGHT);
+            int attacked = step % LABEL_WEIGHT;
             int best = NONE;
             int greatest = NONE;
             for (int v = 0; v < STATES; v++) {
-                int breach = net.holds(other, label, v) ? likeness.breachOf(attacked, v) : NONE;
-                if (breach > greatest) {
+                int apart = hasBit(answers, v) ? likeness.breachOf(attacked, v) : NONE;
+                if (apart > greatest) {
                     best = v;
-                    greatest = breach;
+                    greatest = apart;
                 }
             }
             return best;

@@ -175,7 +175,9 @@ public final class PromisesTest {
         checks.due("6: clear of nothing", x.clear(), 0);
         x.colour(3, 1);
         checks.due("6: clear of colours alone", x.clear(), 0);
-        checks.due("6: colours are 0", x.kinds(), 1);
+        checks.due("6: colours are one", x.kinds(), 1);
+        x.colour(3, 0);
+        checks.due("6: and it is 0", x.kinds(), 1);
     }
 
     private static void promise7Alike() {
@@ -188,6 +190,10 @@ public final class PromisesTest {
         x.colour(5, 1);
         checks.due("7: a move more that matters", x.alike(3, 6), false);
         checks.due("7: the other way round", x.alike(6, 3), false);
+        AlikeStates y = net(1, 0, 0, 1, 0, 3, 2, 0, 3);
+        checks.due("7: a move more to one alike", y.alike(1, 2), true);
+        y.colour(0, 1);
+        checks.due("7: a move more to one by itself", y.alike(1, 2), false);
         for (int none : NO_STATES) {
             checks.due("7: no state " + none, x.alike(none, 1), false);
             checks.due("7: nor this " + none, x.alike(1, none), false);
@@ -317,6 +323,9 @@ public final class PromisesTest {
         checks.due("14: a loop covers a ring that may end", y.covers(0, 1), true);
         checks.due("14: and is covered by it", y.covers(1, 0), true);
         checks.due("14: without being alike", y.alike(0, 1), false);
+        AlikeStates z = net(1, 0, 0, 2, 0, 3, 0, 1, 3);
+        checks.due("14: a move to state 0 that can do more", z.covers(2, 1), false);
+        checks.due("14: and covers what can do less", z.covers(1, 2), true);
     }
 
     private static void promise15Below() {
@@ -346,6 +355,9 @@ public final class PromisesTest {
             checks.due("16: no state " + none, x.attacks(none, 4), 0);
             checks.due("16: nor this " + none, x.attacks(4, none), 0);
         }
+        AlikeStates z = net(0, 3, 9, 1, 0, 5);
+        checks.due("16: moves of the next state do not count", z.attacks(0, 7), 1);
+        checks.due("16: nor is there one after the last", z.attacks(23, 0), 1);
         AlikeStates y = net(0, 0, 1, 0, 0, 2, 3, 0, 4, 2, 1, 5, 5, 2, 6, 4, 1, 6);
         checks.due("16: breach 2", y.breach(0, 3), 2);
         checks.due("16: a state alike for k rounds is no attack", y.attacks(0, 3), 1);
@@ -398,6 +410,9 @@ public final class PromisesTest {
         x.move(0, 1, 22);
         checks.due("18: then by the state", x.attack(0, 1, 0), 122);
         checks.due("16: all of them", x.attacks(0, 1), 5);
+        x.move(7, 0, 5);
+        checks.due("18: moves of the next state do not count", x.attack(6, 0, 0), 1122);
+        checks.due("18: nor is there one after the last", x.attack(23, 0, 0), 1122);
     }
 
     private static void promise19Answer() {
@@ -504,5 +519,11 @@ public final class PromisesTest {
         checks.due("after drop", x.kinds() * 100 + x.below(1), 223);
         x.clear();
         checks.due("after clear", x.kinds() * 100 + x.below(1), 124);
+        AlikeStates y = chain(0);
+        checks.due("many rounds", y.kinds() * 100 + y.below(23), 2401);
+        y.drop(10, 0, 11);
+        checks.due("fewer rounds", y.kinds() * 100 + y.below(0), 1322);
+        y.clear();
+        checks.due("one round", y.kinds() * 100 + y.below(0), 124);
     }
 }
