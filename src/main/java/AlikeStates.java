@@ -213,8 +213,14 @@ public final class AlikeStates {
             count = 0;
         }
 
-        /** The states with the colour of s. */
-        int sameColour(int s) {
+        /** Puts the states with the colour of state s to rows[s], which is where both relations begin. */
+        void groupByColour(int[] rows) {
+            for (int s = 0; s < STATES; s++) {
+                rows[s] = sameColour(s);
+            }
+        }
+
+        private int sameColour(int s) {
             int found = 0;
             for (int t = 0; t < STATES; t++) {
                 if (colours[t] == colours[s]) {
@@ -271,9 +277,7 @@ public final class AlikeStates {
             if (settled) {
                 return;
             }
-            for (int s = 0; s < STATES; s++) {
-                rows[s] = net.sameColour(s);
-            }
+            net.groupByColour(rows);
             lastRound = 0;
             for (int round = 1; round < STATES && partsMore(round); round++) {
                 lastRound = round;
@@ -425,9 +429,7 @@ public final class AlikeStates {
             if (settled) {
                 return;
             }
-            for (int s = 0; s < STATES; s++) {
-                below[s] = net.sameColour(s);
-            }
+            net.groupByColour(below);
             boolean shrunk = true;
             // A round that changes anything takes away one pair at least.
             for (int round = 0; round < STATES * STATES && shrunk; round++) {
