@@ -1,8 +1,8 @@
 /** Each promise by itself: ordinary inputs, the edges that the document names, and wrong inputs. */
 public final class PromisesTest {
     private static final int NONE = AlikeStates.NONE;
-    private static final int[] NO_STATES = {-1, 24, 25, 32, 56, -8, Integer.MIN_VALUE, Integer.MAX_VALUE};
-    private static final int[] NO_LABELS = {-1, 4, 5, 32, -4, Integer.MIN_VALUE, Integer.MAX_VALUE};
+    private static final int[] NO_STATES = Nets.NO_STATES;
+    private static final int[] NO_LABELS = Nets.NO_LABELS;
 
     private static final Checks checks = new Checks();
 
@@ -31,37 +31,9 @@ public final class PromisesTest {
         promise19Answer();
         promise19OrderOfAnswers();
         sidesStayWhereTheyWere();
-        refusedCallsChangeNothing();
         objectsDoNotShare();
         answersFollowEveryChange();
         checks.end();
-    }
-
-    /** A net from rows of state, label and state. */
-    private static AlikeStates net(int... moves) {
-        AlikeStates x = new AlikeStates();
-        for (int i = 0; i < moves.length; i += 3) {
-            checks.isTrue("move of a net", x.move(moves[i], moves[i + 1], moves[i + 2]));
-        }
-        return x;
-    }
-
-    /** States 0 to 23 in a row, each with a move with the label to the next one. */
-    private static AlikeStates chain(int label) {
-        AlikeStates x = new AlikeStates();
-        for (int s = 0; s < 23; s++) {
-            checks.isTrue("move of a chain", x.move(s, label, s + 1));
-        }
-        return x;
-    }
-
-    /** 120 moves: with all labels from states 0 and 1 to states 0 to 14. */
-    private static AlikeStates full() {
-        AlikeStates x = new AlikeStates();
-        for (int i = 0; i < 120; i++) {
-            checks.isTrue("move " + (i + 1), x.move(i / 60, i / 15 % 4, i % 15));
-        }
-        return x;
     }
 
     private static void promise1NewObject() {
@@ -101,7 +73,7 @@ public final class PromisesTest {
     }
 
     private static void promise2FullNet() {
-        AlikeStates x = full();
+        AlikeStates x = Nets.full();
         checks.due("2: 120 moves", x.moves(), 120);
         checks.due("2: the 121st", x.move(2, 0, 2), false);
         checks.due("2: still 120", x.moves(), 120);
@@ -115,7 +87,7 @@ public final class PromisesTest {
     }
 
     private static void promise3Drop() {
-        AlikeStates x = net(0, 0, 1, 0, 1, 1, 0, 0, 2, 23, 3, 23);
+        AlikeStates x = Nets.of(0, 0, 1, 0, 1, 1, 0, 0, 2, 23, 3, 23);
         checks.due("3: not there", x.drop(1, 0, 0), false);
         checks.due("3: other label", x.drop(0, 2, 1), false);
         checks.due("3: there", x.drop(0, 0, 1), true);
@@ -153,7 +125,7 @@ public final class PromisesTest {
     }
 
     private static void promise5Moves() {
-        AlikeStates x = net(0, 0, 1, 0, 1, 1, 5, 3, 5);
+        AlikeStates x = Nets.of(0, 0, 1, 0, 1, 1, 5, 3, 5);
         checks.due("5: moves", x.moves(), 3);
         x.move(0, 0, 1);
         checks.due("5: after a refused move", x.moves(), 3);
@@ -164,7 +136,7 @@ public final class PromisesTest {
     }
 
     private static void promise6Clear() {
-        AlikeStates x = net(0, 0, 1, 23, 3, 23);
+        AlikeStates x = Nets.of(0, 0, 1, 23, 3, 23);
         x.colour(0, 4);
         x.colour(23, 4);
         checks.due("6: clear", x.clear(), 2);
@@ -181,7 +153,7 @@ public final class PromisesTest {
     }
 
     private static void promise7Alike() {
-        AlikeStates x = net(0, 0, 1, 1, 0, 0, 2, 0, 2, 3, 0, 4, 3, 0, 5, 6, 0, 4);
+        AlikeStates x = Nets.of(0, 0, 1, 1, 0, 0, 2, 0, 2, 3, 0, 4, 3, 0, 5, 6, 0, 4);
         checks.due("7: a ring and a loop", x.alike(0, 2), true);
         checks.due("7: the other way", x.alike(2, 1), true);
         checks.due("7: two moves that do the same", x.alike(3, 6), true);
@@ -190,7 +162,7 @@ public final class PromisesTest {
         x.colour(5, 1);
         checks.due("7: a move more that matters", x.alike(3, 6), false);
         checks.due("7: the other way round", x.alike(6, 3), false);
-        AlikeStates y = net(1, 0, 0, 1, 0, 3, 2, 0, 3);
+        AlikeStates y = Nets.of(1, 0, 0, 1, 0, 3, 2, 0, 3);
         checks.due("7: a move more to one alike", y.alike(1, 2), true);
         y.colour(0, 1);
         checks.due("7: a move more to one by itself", y.alike(1, 2), false);
@@ -202,7 +174,7 @@ public final class PromisesTest {
     }
 
     private static void promise8Breach() {
-        AlikeStates x = net(0, 0, 1, 2, 0, 3, 3, 1, 4, 5, 1, 4);
+        AlikeStates x = Nets.of(0, 0, 1, 2, 0, 3, 3, 1, 4, 5, 1, 4);
         checks.due("8: alike", x.breach(1, 4), NONE);
         checks.due("8: itself", x.breach(0, 0), NONE);
         checks.due("8: a move and none", x.breach(0, 1), 1);
@@ -218,7 +190,7 @@ public final class PromisesTest {
     }
 
     private static void promise8LongestBreach() {
-        AlikeStates x = chain(2);
+        AlikeStates x = Nets.chain(2);
         for (int s = 0; s < 23; s++) {
             checks.due("8: along the chain", x.breach(s, s + 1), 23 - s);
         }
@@ -232,7 +204,7 @@ public final class PromisesTest {
     }
 
     private static void promise9Kinds() {
-        AlikeStates x = net(0, 0, 1, 1, 0, 0, 2, 0, 2);
+        AlikeStates x = Nets.of(0, 0, 1, 1, 0, 0, 2, 0, 2);
         checks.due("9: a ring, a loop, the rest", x.kinds(), 2);
         x.colour(0, 1);
         checks.due("9: a ring of two colours", x.kinds(), 4);
@@ -276,7 +248,7 @@ public final class PromisesTest {
     }
 
     private static void promise12Reach() {
-        AlikeStates x = net(0, 3, 1, 0, 3, 2, 1, 0, 0, 2, 1, 23, 3, 1, 4, 0, 3, 3);
+        AlikeStates x = Nets.of(0, 3, 1, 0, 3, 2, 1, 0, 0, 2, 1, 23, 3, 1, 4, 0, 3, 3);
         checks.due("12: three kinds", x.kinds(), 4);
         checks.due("12: two kinds at once", x.reach(0, 3), 2 + 4);
         checks.due("12: to the first", x.reach(1, 0), 1);
@@ -291,22 +263,22 @@ public final class PromisesTest {
             checks.due("12: no label " + none, x.reach(0, none), 0);
             checks.due("12: nor for kind 1 " + none, x.reach(1, none), 0);
         }
-        AlikeStates y = chain(1);
+        AlikeStates y = Nets.chain(1);
         checks.due("12: the greatest kind", y.reach(22, 1), 1 << 23);
     }
 
     private static void promise13Links() {
-        AlikeStates x = net(0, 0, 1, 0, 0, 2, 3, 0, 1, 0, 1, 1, 3, 1, 2);
+        AlikeStates x = Nets.of(0, 0, 1, 0, 0, 2, 3, 0, 1, 0, 1, 1, 3, 1, 2);
         checks.due("13: moves of a kind count once", x.links(), 2);
         x.colour(2, 1);
         checks.due("13: kinds apart", x.links(), 3 + 2);
-        checks.due("13: of a chain", chain(3).links(), 23);
+        checks.due("13: of a chain", Nets.chain(3).links(), 23);
         checks.due("13: of none", new AlikeStates().links(), 0);
-        checks.due("13: of one kind with loops", net(5, 0, 5, 5, 1, 5, 6, 0, 5, 6, 1, 6).links(), 2);
+        checks.due("13: of one kind with loops", Nets.of(5, 0, 5, 5, 1, 5, 6, 0, 5, 6, 1, 6).links(), 2);
     }
 
     private static void promise14Covers() {
-        AlikeStates x = net(0, 0, 1, 0, 0, 2, 1, 1, 3, 2, 2, 3, 5, 0, 6, 6, 1, 7, 6, 2, 7);
+        AlikeStates x = Nets.of(0, 0, 1, 0, 0, 2, 1, 1, 3, 2, 2, 3, 5, 0, 6, 6, 1, 7, 6, 2, 7);
         checks.due("14: choice later covers choice now", x.covers(5, 0), true);
         checks.due("14: but not the other way", x.covers(0, 5), false);
         checks.due("14: all cover the end", x.covers(0, 23), true);
@@ -319,17 +291,17 @@ public final class PromisesTest {
             checks.due("14: nor this " + none, x.covers(1, none), false);
             checks.due("14: nor both " + none, x.covers(none, none), false);
         }
-        AlikeStates y = net(0, 0, 0, 1, 0, 2, 2, 0, 3, 3, 0, 1, 3, 0, 4);
+        AlikeStates y = Nets.of(0, 0, 0, 1, 0, 2, 2, 0, 3, 3, 0, 1, 3, 0, 4);
         checks.due("14: a loop covers a ring that may end", y.covers(0, 1), true);
         checks.due("14: and is covered by it", y.covers(1, 0), true);
         checks.due("14: without being alike", y.alike(0, 1), false);
-        AlikeStates z = net(1, 0, 0, 2, 0, 3, 0, 1, 3);
+        AlikeStates z = Nets.of(1, 0, 0, 2, 0, 3, 0, 1, 3);
         checks.due("14: a move to state 0 that can do more", z.covers(2, 1), false);
         checks.due("14: and covers what can do less", z.covers(1, 2), true);
     }
 
     private static void promise15Below() {
-        AlikeStates x = chain(0);
+        AlikeStates x = Nets.chain(0);
         for (int s = 0; s < 24; s++) {
             checks.due("15: below(" + s + ")", x.below(s), 24 - s);
         }
@@ -342,7 +314,7 @@ public final class PromisesTest {
     }
 
     private static void promise16Attacks() {
-        AlikeStates x = net(0, 0, 1, 0, 0, 2, 0, 3, 3, 4, 0, 5, 4, 1, 6, 4, 3, 7);
+        AlikeStates x = Nets.of(0, 0, 1, 0, 0, 2, 0, 3, 3, 4, 0, 5, 4, 1, 6, 4, 3, 7);
         checks.due("16: moves without a match", x.attacks(0, 4), 1);
         x.colour(7, 1);
         checks.due("16: both of the matched ones too", x.attacks(0, 4), 3);
@@ -355,17 +327,17 @@ public final class PromisesTest {
             checks.due("16: no state " + none, x.attacks(none, 4), 0);
             checks.due("16: nor this " + none, x.attacks(4, none), 0);
         }
-        AlikeStates z = net(0, 3, 9, 1, 0, 5);
+        AlikeStates z = Nets.of(0, 3, 9, 1, 0, 5);
         checks.due("16: moves of the next state do not count", z.attacks(0, 7), 1);
         checks.due("16: nor is there one after the last", z.attacks(23, 0), 1);
-        AlikeStates y = net(0, 0, 1, 0, 0, 2, 3, 0, 4, 2, 1, 5, 5, 2, 6, 4, 1, 6);
+        AlikeStates y = Nets.of(0, 0, 1, 0, 0, 2, 3, 0, 4, 2, 1, 5, 5, 2, 6, 4, 1, 6);
         checks.due("16: breach 2", y.breach(0, 3), 2);
         checks.due("16: a state alike for k rounds is no attack", y.attacks(0, 3), 1);
         checks.due("16: the first one", y.attack(0, 3, 0), 1);
     }
 
     private static void promise17Play() {
-        AlikeStates x = net(0, 0, 1, 2, 0, 3, 3, 0, 4);
+        AlikeStates x = Nets.of(0, 0, 1, 2, 0, 3, 3, 0, 4);
         checks.due("17: no answer to the second", x.play(0, 2), 2);
         checks.due("17: no answer at once", x.play(0, 1), 1);
         checks.due("17: alike", x.play(0, 3), 0);
@@ -377,12 +349,12 @@ public final class PromisesTest {
             checks.due("17: no state " + none, x.play(none, 2), 0);
             checks.due("17: nor this " + none, x.play(2, none), 0);
         }
-        AlikeStates y = net(0, 0, 1, 1, 0, 2, 2, 1, 3, 4, 0, 5, 5, 0, 6, 6, 2, 3, 0, 1, 0);
+        AlikeStates y = Nets.of(0, 0, 1, 1, 0, 2, 2, 1, 3, 4, 0, 5, 5, 0, 6, 6, 2, 3, 0, 1, 0);
         checks.due("17: the breach is no measure of it", y.play(0, 4), 1);
     }
 
     private static void promise18Attack() {
-        AlikeStates x = net(0, 2, 23, 1, 3, 22);
+        AlikeStates x = Nets.of(0, 2, 23, 1, 3, 22);
         checks.due("18: on the side of s", x.attack(0, 1, 0), 223);
         checks.due("18: from the other end", x.attack(1, 0, 0), 322);
         checks.due("18: on the side of t", x.attack(5, 1, 0), 1322);
@@ -398,11 +370,11 @@ public final class PromisesTest {
             checks.due("18: no state " + none, x.attack(none, 1, 0), NONE);
             checks.due("18: nor this " + none, x.attack(1, none, 0), NONE);
         }
-        checks.due("18: label 0 to state 0", net(4, 0, 0).attack(4, 5, 0), 0);
+        checks.due("18: label 0 to state 0", Nets.of(4, 0, 0).attack(4, 5, 0), 0);
     }
 
     private static void promise18OrderOfAttacks() {
-        AlikeStates x = net(0, 3, 1, 0, 3, 0, 1, 2, 0);
+        AlikeStates x = Nets.of(0, 3, 1, 0, 3, 0, 1, 2, 0);
         checks.due("18: of s first", x.attack(0, 1, 0), 300);
         checks.due("18: also when it is the greater", x.attack(1, 0, 0), 200);
         x.move(0, 1, 23);
@@ -416,7 +388,7 @@ public final class PromisesTest {
     }
 
     private static void promise19Answer() {
-        AlikeStates x = net(0, 0, 1, 2, 0, 3, 3, 0, 4);
+        AlikeStates x = Nets.of(0, 0, 1, 2, 0, 3, 3, 0, 4);
         checks.due("19: an answer", x.answer(0, 2, 0), 3);
         checks.due("19: no answer", x.answer(0, 2, 1), NONE);
         checks.due("19: no such attack", x.answer(0, 2, 2), NONE);
@@ -432,12 +404,12 @@ public final class PromisesTest {
             checks.due("19: no state " + none, x.answer(none, 2, 0), NONE);
             checks.due("19: nor this " + none, x.answer(2, none, 0), NONE);
         }
-        checks.due("19: state 0 is an answer", net(1, 0, 2, 2, 0, 3, 4, 0, 0).answer(1, 4, 0), 0);
+        checks.due("19: state 0 is an answer", Nets.of(1, 0, 2, 2, 0, 3, 4, 0, 0).answer(1, 4, 0), 0);
     }
 
     private static void promise19OrderOfAnswers() {
         // State 0 goes to 1 with two moves to come and to 4 with none; 5 to 6 and 7 with one, 8 with none.
-        AlikeStates x = net(0, 0, 1, 1, 0, 2, 2, 0, 3, 0, 0, 4);
+        AlikeStates x = Nets.of(0, 0, 1, 1, 0, 2, 2, 0, 3, 0, 0, 4);
         x.move(6, 0, 9);
         x.move(7, 0, 9);
         for (int v = 6; v <= 8; v++) {
@@ -455,7 +427,7 @@ public final class PromisesTest {
 
     private static void sidesStayWhereTheyWere() {
         // 0 and 5 can each be told apart by a move of 5's side, then by one of 0's side.
-        AlikeStates x = net(0, 0, 1, 1, 1, 2, 5, 0, 6, 5, 0, 7, 6, 1, 3);
+        AlikeStates x = Nets.of(0, 0, 1, 1, 1, 2, 5, 0, 6, 5, 0, 7, 6, 1, 3);
         checks.due("play on the side of t", x.attack(0, 5, 0), 1007);
         checks.due("answer on the side of s", x.answer(0, 5, 0), 1);
         checks.due("then on the side of s", x.attack(0, 5, 1), 102);
@@ -465,41 +437,8 @@ public final class PromisesTest {
         checks.due("attacks made", x.play(5, 0), 2);
     }
 
-    private static void refusedCallsChangeNothing() {
-        AlikeStates x = net(0, 0, 1, 1, 1, 2, 23, 3, 0);
-        x.colour(2, 6);
-        long before = fingerprint(x);
-        for (int none : NO_STATES) {
-            x.move(none, 0, 0);
-            x.move(0, 0, none);
-            x.drop(none, 0, 1);
-            x.drop(0, 0, none);
-            x.colour(none, 6);
-        }
-        for (int none : NO_LABELS) {
-            x.move(0, none, 1);
-            x.drop(0, none, 1);
-        }
-        x.move(0, 0, 1);
-        x.drop(0, 0, 2);
-        checks.due("after refused calls", fingerprint(x), before);
-    }
-
-    /** Some number that hangs on every move and on how the colours part the states. */
-    private static long fingerprint(AlikeStates x) {
-        long sum = x.moves();
-        for (int s = 0; s < 24; s++) {
-            sum = sum * 31 + x.kind(s);
-            sum = sum * 31 + x.below(s);
-            for (int label = 0; label < 4; label++) {
-                sum = sum * 31 + x.reach(s, label);
-            }
-        }
-        return sum;
-    }
-
     private static void objectsDoNotShare() {
-        AlikeStates x = net(0, 0, 1);
+        AlikeStates x = Nets.of(0, 0, 1);
         AlikeStates y = new AlikeStates();
         y.colour(3, 1);
         checks.due("moves of one", x.moves(), 1);
@@ -519,7 +458,7 @@ public final class PromisesTest {
         checks.due("after drop", x.kinds() * 100 + x.below(1), 223);
         x.clear();
         checks.due("after clear", x.kinds() * 100 + x.below(1), 124);
-        AlikeStates y = chain(0);
+        AlikeStates y = Nets.chain(0);
         checks.due("many rounds", y.kinds() * 100 + y.below(23), 2401);
         y.drop(10, 0, 11);
         checks.due("fewer rounds", y.kinds() * 100 + y.below(0), 1322);
