@@ -8,7 +8,11 @@ import java.util.function.Supplier;
  */
 final class Picture {
     private static final int MOST_ON_ONE_OBJECT = 288;
-    private static final int[] COLOURS = {0, 1, -1, 6, Nets.LEAST, Nets.GREATEST};
+    /** Those of the nets that the tests take pictures of, and some next to them. */
+    private static final int[] COLOURS = {
+        Nets.LEAST, Nets.LEAST + 1, -24, -2, -1, 0, 1, 2, 3, 4, 5, 6, 7, 8, 9, 10, 11, 12, 13, 14, 15, 16, 17, 18,
+        19, 20, 21, 22, 23, 24, Nets.GREATEST - 1, Nets.GREATEST
+    };
 
     private final Supplier<AlikeStates> made;
     private final List<String> names = new ArrayList<>();
@@ -29,6 +33,9 @@ final class Picture {
 
     /** The first answer that differs, with both of them; an empty text when none does. */
     String differenceTo(Picture other) {
+        if (answers.size() != other.answers.size()) {
+            return "the longest play";
+        }
         for (int part = 0; part < answers.size(); part++) {
             int[] mine = answers.get(part);
             int[] theirs = other.answers.get(part);
@@ -60,11 +67,21 @@ final class Picture {
         ask("covers", 24 * 24, (x, n) -> bit(x.covers(n / 24, n % 24)));
         ask("attacks", 24 * 24, (x, n) -> x.attacks(n / 24, n % 24));
         ask("play", 24 * 24, (x, n) -> x.play(n / 24, n % 24));
-        for (int i = 0; i < 2; i++) {
-            int at = i;
-            ask("attack " + at + " of", 24 * 24, (x, n) -> x.attack(n / 24, n % 24, at));
-            ask("answer " + at + " of", 24 * 24, (x, n) -> x.answer(n / 24, n % 24, at));
+        boolean there = true;
+        for (int i = 0; i <= 24 && there; i++) {
+            there = askOfAttacks(i);
         }
+    }
+
+    /** Asks for attack i of every play, and for its answer; says whether any play has such an attack. */
+    private boolean askOfAttacks(int i) {
+        int[] attacks = ask("attack " + i + " of", 24 * 24, (x, n) -> x.attack(n / 24, n % 24, i));
+        ask("answer " + i + " of", 24 * 24, (x, n) -> x.answer(n / 24, n % 24, i));
+        boolean there = false;
+        for (int attack : attacks) {
+            there |= attack != AlikeStates.NONE;
+        }
+        return there;
     }
 
     /** A move is there when it can be taken away. */
@@ -82,7 +99,7 @@ final class Picture {
         }
     }
 
-    private void ask(String name, int times, Question question) {
+    private int[] ask(String name, int times, Question question) {
         int[] row = new int[times];
         AlikeStates x = null;
         for (int n = 0; n < times; n++) {
@@ -93,6 +110,7 @@ final class Picture {
         }
         names.add(name);
         answers.add(row);
+        return row;
     }
 
     private static int bit(boolean b) {

@@ -350,7 +350,7 @@ public final class PromisesTest {
             checks.due("17: nor this " + none, x.play(2, none), 0);
         }
         AlikeStates y = Nets.of(0, 0, 1, 1, 0, 2, 2, 1, 3, 4, 0, 5, 5, 0, 6, 6, 2, 3, 0, 1, 0);
-        checks.due("17: the breach is no measure of it", y.play(0, 4), 1);
+        checks.due("17: at once by a move with another label", y.play(0, 4), 1);
     }
 
     private static void promise18Attack() {
